@@ -268,7 +268,7 @@ public final class SpoutNews {
             case 3: return w.mouth[spout];
             case 4: return w.heardCount[spout];
             case 5: return w.dry[spout];
-            case 6: return now.texts.into[spout];
+            case 6: return now.texts.gutterOf(spout);
             case 7: return now.texts.law.tells(HEARS, w, spout, 0);
             case 8: return now.texts.law.tells(JET, w, spout, 0);
             default: return NO_SUCH;
@@ -728,7 +728,7 @@ public final class SpoutNews {
         }
 
         int wordAt(int spout, int i) {
-            return heard[spout * MOST_HEARD + i];
+            return isSpout(spout) && i >= 0 && i < MOST_HEARD ? heard[spout * MOST_HEARD + i] : 0;
         }
 
         int heardSet(int spout) {
@@ -919,9 +919,10 @@ public final class SpoutNews {
             w.said++;
             w.fillJarsAt(spout, word);
             b.write(w, WAS_SAID, spout, word);
-            if (t.into[spout] != NONE && waiting < waitingWord.length) {
+            int into = t.gutterOf(spout);
+            if (into != NONE && waiting < MOST_SPOUTS * MOST_JET) {
                 waitingWord[waiting] = word;
-                waitingInto[waiting] = t.into[spout];
+                waitingInto[waiting] = into;
                 waiting++;
             }
             w.dropFirst(spout);
@@ -953,6 +954,11 @@ public final class SpoutNews {
 
         Texts() {
             Arrays.fill(into, NONE);
+        }
+
+        /** The spout into which one leads (NONE: it has no gutter, or is none itself). */
+        int gutterOf(int spout) {
+            return spout >= 0 && spout < MOST_SPOUTS ? into[spout] : NONE;
         }
 
         int rainOn(int day) {
@@ -1170,7 +1176,7 @@ public final class SpoutNews {
                 int n = number[i];
                 if (step[i] <= PUT_FACT) {
                     if (top < STACK) {
-                        stack[top] = step[i] == PUT_NUMBER ? n : facts[n];
+                        stack[top] = step[i] == PUT_NUMBER || n < 0 || n >= FACTS ? n : facts[n];
                         top++;
                     }
                 } else if (step[i] == PART) {
@@ -1663,7 +1669,7 @@ public final class SpoutNews {
             int at = spout;
             for (int i = 0; i < MOST_SPOUTS && at != NONE; i++) {
                 set |= 1 << at;
-                at = t.into[at];
+                at = t.gutterOf(at);
             }
             return set;
         }
@@ -1671,8 +1677,8 @@ public final class SpoutNews {
         /** The spouts at which all that is said ends: one without a gutter, or a whole round. */
         private int lastOnes(Texts t, int spout) {
             int at = spout;
-            for (int i = 0; i < MOST_SPOUTS && t.into[at] != NONE; i++) {
-                at = t.into[at];
+            for (int i = 0; i < MOST_SPOUTS && t.gutterOf(at) != NONE; i++) {
+                at = t.gutterOf(at);
             }
             return reach(t, at);
         }
@@ -1691,7 +1697,7 @@ public final class SpoutNews {
             int at = spout;
             int count = 0;
             for (int i = 0; i < MOST_SPOUTS && at != NONE && (last >> at & 1) == 0; i++) {
-                at = t.into[at];
+                at = t.gutterOf(at);
                 count++;
             }
             return count;

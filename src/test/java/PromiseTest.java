@@ -398,6 +398,14 @@ public final class PromiseTest {
         fault(x, 0, "hears 2;;", 1, 8);
         fault(x, 0, "Hears 2;", 1, 0);
         fault(x, 0, "hearsX 2;", 1, 0);
+        for (String letter : new String[] {"a", "z", "A", "Z"}) {
+            fault(x, 0, "hears" + letter + " 2;", 1, 0);
+            fault(x, 0, "hears 2 " + letter + "when 1=1;", 1, 8);
+        }
+        for (String sign : new String[] {"@", "[", "`", "{", ":", ",", ".", "\u00e9", "\u0000"}) {
+            fault(x, 0, "hears" + sign + " 2;", 1, 5);
+            fault(x, 0, "hears 2" + sign + "9;", 1, 7);
+        }
         fault(x, 0, "hears 12345;", 1, 6);
         fault(x, 0, "hears 2/0;", 2, 8);
         fault(x, 0, "hears 2/00+;", 2, 8);
