@@ -156,6 +156,7 @@ public final class DayBoundsTest {
         row("asked for each sitter", Run.of(1, 3, 0xf0).act(0, 0, 0).act(0, 1, 0).text(0, "hears 3-heard;").days(1), 0, 0, 1, 4);
         Check.due("all sixteen words", Run.of(1, 0xff, 0xff00).act(0, 0, 0).act(0, 1, 0).text(0, "hears 8;").days(1), x -> x.of(0, 4), 16);
         Check.due("no more come", Run.of(1, 0xff, 0xff00).act(0, 0, 0).act(0, 1, 0).text(0, "hears 8;").days(60), x -> x.of(0, 4), 16);
+        Check.due("word is 0 when it is asked", Run.of(1, 0xff).act(0, 0, 0).text(0, "hears 1+word;").days(1), x -> x.of(0, 4), 1);
         Check.due("eight sitters", Run.of(1, 1, 2, 4, 8, 16, 32, 64, 128).act(0, 0, 0).act(0, 1, 0).act(0, 2, 0).act(0, 3, 0).act(0, 4, 0).act(0, 5, 0)
             .act(0, 6, 0).act(0, 7, 0).days(1), x -> x.of(0, 4), 8);
     }
@@ -202,6 +203,7 @@ public final class DayBoundsTest {
         Check.due("jet of none", Run.of(1).set(0, 0, 9), x -> x.days(1), 0);
         // Were it asked word by word, two would be said.
         Check.due("asked ahead", heard(7).text(0, "jet heard;").set(0, 0, 1), x -> x.days(1), 3);
+        Check.due("word is 0 when it is asked", heard(0xff).text(0, "jet 1+word;").set(0, 0, 1), x -> x.days(1), 1);
         row("nothing is left", heard(7).set(0, 0, 1).days(1), 0);
         Check.sentence("Terms 3", "SAID is one more");
         Check.due("SAID", heard(0xff).set(0, 0, 1).days(1), x -> x.look(3), 8);
@@ -318,9 +320,24 @@ public final class DayBoundsTest {
         Run swap = Run.of(2, 1, 1).act(0, 0, 0).act(0, 1, 1).days(1).set(0, 0, 1).text(0, "slip 0;").text(1, "spout 0 into 1;spout 1 into 0;").days(1);
         row("what was said is HEARD no more, so it comes", swap, 0, 0);
         row("what was said is HEARD no more, so it comes", swap, 1, 0);
+        tenSayNine();
         Run all = Run.of(2, 0xffff).act(0, 0, 0).text(0, "hears 9;jet 9;slip 0;").days(2).set(0, 0, 1).text(1, "spout 0 into 1;")
             .text(0, "jet 9 when stone=0;jet 0;slip 0;").days(2);
         row("all sixteen", all, 1, 0, 1, 2, 3, 4, 5, 6, 7, 8, 9, 10, 11, 12, 13, 14, 15);
+    }
+
+    /** As many words wait at once as ever can: nine of each of ten spouts, in a round. */
+    private static void tenSayNine() {
+        Run r = Run.of(10, 0b1_1111_1111).text(0, "hears 9;jet 9;slip 1000 when lean=90;slip 0;")
+            .text(1, "spout0into1;spout1into2;spout2into3;spout3into4;spout4into5;spout5into6;spout6into7;spout7into8;spout8into9;spout9into0;");
+        for (int i = 0; i < 10; i++) {
+            r = r.act(0, 0, i).days(1);
+        }
+        Run rain = r.set(0, 0, 1).days(1);
+        Check.due("nine of each of ten", rain.last(), 90);
+        row("the last spout says all wrong", rain, 0, 1, 2, 3, 4, 5, 6, 7, 8, 9);
+        row("the last that waits for it", rain, 9, 0, 1, 2, 3, 4, 5, 6, 7, 8);
+        Check.due("in thought, too", r.set(0, 0, 1), x -> x.goes(1, 2), 90);
     }
 
     private static void theBook() {
@@ -397,7 +414,20 @@ public final class DayBoundsTest {
         Check.due("a bare cathedral", new Run(), x -> x.goes(60, 2), 0);
         Check.due("HEARD in all", eightHear(), x -> x.goes(2, 2), 128);
         Check.due("a plan and weather go, too", Run.of(2, 7).text(3, "on 0 seat 0 at 1;on 1 jar 3 at 1;").text(2, "day 1 rain 2;"), x -> x.goes(2, 13), 3);
+        goesByTheLaw();
         Check.due("the day goes on", Run.of(1, 0xffff).act(0, 0, 0).text(0, "hears day;"), x -> x.goes(4, 2), 6);
+    }
+
+    /** Each fact that the law can ask for is in thought what it would be in truth. */
+    private static void goesByTheLaw() {
+        Run r = new Run(x -> x.spout(2, 3, 4), x -> x.sitter(0xffff)).act(0, 0, 0).act(3, 0, 0).text(0, "hears 6;").days(2).set(2, 0, 5).set(0, 0, 7);
+        String[] facts = {"stone", "side", "lean", "mouth", "rain", "heard-4", "dry", "3+word", "day"};
+        int[] due = {2, 3, 4, 1, 7, 8, 5, 3, 2};
+        for (int i = 0; i < facts.length; i++) {
+            Run told = r.text(0, "jet " + facts[i] + ";");
+            Check.due("jet " + facts[i] + " in thought", told, x -> x.goes(1, 0), due[i]);
+            Check.due("jet " + facts[i] + " in truth", told, x -> x.days(1), due[i]);
+        }
     }
 
     private static void goesSlips() {

@@ -61,7 +61,8 @@ public final class FuzzTest {
             return low - 1;
         }
         if (dice == 2) {
-            return random.nextInt();
+            int far = random.nextInt();
+            return far % 4 == 0 ? Integer.MIN_VALUE : far % 4 == 1 ? Integer.MAX_VALUE : far;
         }
         return r(low, high);
     }

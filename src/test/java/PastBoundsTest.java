@@ -164,13 +164,13 @@ public final class PastBoundsTest {
             .act(0, 0, 2).act(1, 1, 0).act(2, 0, 2).act(2, 5, 2).act(4, 0, 0).act(5, 2, 0).act(7, 0, 0)
             .text(0, "jet 9;hears 9;slip 1000;").text(1, "spout 2 into 0;").text(2, "day 4 rain 9;").text(3, "on 5 tell 0 9;").days(9)
             .then(x -> x.seat(NONE, 0), x -> x.seat(1, 2), x -> x.quarrel(NONE, 0), x -> x.quarrel(8, 9), x -> Run.bit(x.latin(7, 7)), x -> Run.bit(x.latin(1, 9)),
-                x -> Run.bit(x.mason(1, false, 2130)), x -> Run.bit(x.mason(2, true, 1302)), x -> x.drought(NONE), x -> x.drought(0), x -> x.chapter(NONE), x -> x.chapter(60));
+                x -> Run.bit(x.mason(1, false, 2130)), x -> Run.bit(x.mason(2, true, 1203)), x -> x.drought(NONE), x -> x.drought(0), x -> x.chapter(NONE), x -> x.chapter(60));
     }
 
     /** The base with something told for every thought. */
     private static Run rich() {
         return base().text(0, "hears 3;slip 700 when word=2;").text(3, "on 9 rise 0;")
-            .then(x -> x.seat(0, 0), x -> x.seat(0, 1), x -> x.quarrel(0, 1), x -> x.quarrel(2, 3), x -> Run.bit(x.latin(7, 8)), x -> Run.bit(x.latin(8, 7)),
+            .then(x -> x.seat(0, 0), x -> x.seat(1, 0), x -> x.seat(1, 1), x -> x.quarrel(0, 1), x -> x.quarrel(1, 2), x -> x.quarrel(0, 3), x -> Run.bit(x.latin(7, 8)), x -> Run.bit(x.latin(8, 7)),
                 x -> Run.bit(x.mason(1, false, 3210)), x -> Run.bit(x.mason(2, true, 3120)), x -> x.drought(3), x -> x.drought(0), x -> x.drought(0), x -> x.chapter(9), x -> x.chapter(8));
     }
 
@@ -206,6 +206,24 @@ public final class PastBoundsTest {
         Check.due("undo goes on behind it", r.undo().undo(), x -> x.look(5), 5);
         Check.due("the image is as it was taken", r.undo().undo().undo().image(false), x -> x.look(5), 7);
         Check.due("THE BOOK, too", r.undo().undo().undo().undo().set(0, 0, 9).days(1).image(false).ask(x -> x.book(1, 3)), r.ask(x -> x.book(1, 3)));
+        // Undone and gone another way, the last line of THE BOOK has another DAY, what, which and WORD.
+        Run wet = Run.of(2, 1, 2).act(0, 0, 0).act(0, 1, 1).act(4, 1, 0).days(1).text(0, "slip 0;").set(0, 0, 1).days(2);
+        Run other = wet.image(true).undo().undo().act(5, 1, 0).text(2, "day 1 rain 0;").days(1);
+        int[] said = {1, 1, 0, 0};
+        int[] heard = {1, 0, 1, 1};
+        for (int k = 0; k < 4; k++) {
+            int what = k;
+            Check.due("line 1 as it was said, " + k, wet, x -> x.book(1, what), said[k]);
+            Check.due("line 1 in the image, " + k, other.image(false), x -> x.book(1, what), said[k]);
+            Check.due("line 1 another way, " + k, other, x -> x.book(1, what), heard[k]);
+        }
+        Check.due("DAY of a line in the image", laterBook().image(false), x -> x.book(1, 0), 1);
+        Check.due("DAY of that line another way", laterBook(), x -> x.book(1, 0), 2);
         Check.due("nothing to undo then", r.undo().image(false), x -> Run.bit(x.undo()), 0);
+    }
+
+    /** Line 1 of THE BOOK was written on day 1, is in the image so, and is then written on day 2. */
+    private static Run laterBook() {
+        return Run.of(1, 1).act(0, 0, 0).days(1).act(6, 0, 1).days(1).image(true).undo().undo().days(1).act(6, 0, 1).days(1);
     }
 }

@@ -145,6 +145,13 @@ public final class TextBoundsTest {
         fault(place(), 0, "Jet 1;", 1, 0);
         fault(place(), 0, "JET 1;", 1, 0);
         fault(place(), 0, "je t 1;", 1, 0);
+        for (String letter : new String[] {"a", "z", "A", "Z"}) {
+            fault(place(), 0, "jet" + letter + " 1;", 1, 0);
+            fault(place(), 0, "jet 1 " + letter + "when 1=1;", 1, 6);
+        }
+        for (String sign : new String[] {"@", "[", "`", "{"}) {
+            fault(place(), 0, "jet" + sign + " 1;", 1, 3);
+        }
         fault(place(), 0, "jet rainn;", 1, 4);
         fault(place(), 0, "jet 1 whenever 1=1;", 1, 6);
         fault(place(), 0, "jet 1 when 1=1 ore 1=1;", 1, 15);
@@ -224,6 +231,10 @@ public final class TextBoundsTest {
         String long400 = "jet 1" + " ".repeat(395);
         fault(place(), 0, long400, 1, 400);
         fault(place(), 0, " ".repeat(399) + "?", 1, 399);
+        for (int k = 0; k < 4; k++) {
+            fault(place(), k, ";".repeat(400), 1, 0);
+            fault(place(), k, "9 ".repeat(200), 1, 0);
+        }
     }
 
     private static void firstByPlace() {
@@ -345,6 +356,10 @@ public final class TextBoundsTest {
         fine(place(), 0, ("jet 1 when " + "not ".repeat(8) + "1=1;").repeat(8), 8);
         fault(place(), 0, "jet 1 when " + "(".repeat(8) + "1=1" + ")".repeat(7) + ";", 1, 29);
         fault(place(), 0, "jet 1 when " + "(".repeat(8) + "1=1" + ")".repeat(9) + ";", 1, 30);
+        Run broken = place().text(0, "jet 1 when ((((((((1=;");
+        fine(broken, 0, "jet 1 when " + "(".repeat(8) + "1=1" + ")".repeat(8) + ";", 1);
+        fault(broken, 0, "jet 1 when 1=1);", 1, 14);
+        Check.due("what was open in a text before is not open now", place().text(0, "jet 1 when 1=2 and (1=2 and not not 1=;").text(0, "jet 5 when 1=1;jet 3;"), x -> x.of(0, 8), 5);
         Check.due("eight nots turn nothing", place().text(0, "jet 5 when " + "not ".repeat(8) + "1=1;jet 3;"), x -> x.of(0, 8), 5);
         Check.due("seven turn it", place().text(0, "jet 5 when " + "not ".repeat(7) + "1=1;jet 3;"), x -> x.of(0, 8), 3);
     }
@@ -379,6 +394,19 @@ public final class TextBoundsTest {
         fault(place(), 3, "on 0 tell 0 at 1;", 1, 12);
         fault(place(), 3, "on 0 rise 0 rise 1;", 1, 12);
         fault(place(), 3, "seat 0 at 0;", 1, 0);
+        Check.sentence("Terms 2", "1 what can't stand there");
+        String[] whole = {"jet 1 + 2 * 3 / 4 when not ( 1 < 2 or 1 = 2 ) and 2 > 1 ;", "spout 0 into 1 ;", "day 1 rain 1 ;", "on 1 seat 0 at 1 ;"};
+        for (int k = 0; k < 4; k++) {
+            for (int i = whole[k].indexOf(' '); i < whole[k].length() - 2; i = whole[k].indexOf(' ', i + 1)) {
+                String early = whole[k].substring(0, i) + ";";
+                if (k > 0 || !early.matches("jet 1( . \\d)*;|.*1 = 2 \\);")) {
+                    fault(place(), k, early, 1, i);
+                }
+            }
+        }
+        for (String early : new String[] {"on 1 rise;", "on 1 jar 0;", "on 1 jar 0 at;", "on 1 mend;", "on 1 lead;", "on 1 open;", "on 1 tell;", "on 1 tell 0;"}) {
+            fault(place(), 3, early, 1, early.length() - 1);
+        }
     }
 
     private static void faultsAreOfTheLatest() {
@@ -496,6 +524,64 @@ public final class TextBoundsTest {
         Check.due("=", told("jet 1 when 1=2;jet 2 when 2=1;jet 3 when 1=1;", 8), 3);
         Check.due(">", told("jet 1 when 1>1;jet 2 when 1>2;jet 3 when 2>1;", 8), 3);
         Check.due("a or b and c", told("jet 1 when (1=1 or 1=1) and 1=2;jet 3 when 1=1 or 1=1 and 1=2;", 8), 3);
+        truthTables();
+        longSums();
         Check.due("not a and b", told("jet 1 when not (1=1 and 1=2) and 1=2;jet 2 when not 1=2 and 1=2;jet 3;", 8), 3);
+    }
+
+    private static boolean joined(String how, boolean a, boolean b) {
+        return how.equals("and") ? a && b : a || b;
+    }
+
+    /** B = A {or A}, A = C {and C}: all joinings of three, with nots and with parentheses. */
+    private static void truthTables() {
+        Check.sentence("Terms 2", "B = A {or A}. A = C {and C}.");
+        String[] so = {"1=2", "1=1"};
+        for (String one : new String[] {"and", "or"}) {
+            for (String two : new String[] {"and", "or"}) {
+                for (int bits = 0; bits < 8; bits++) {
+                    boolean a = (bits & 1) == 1;
+                    boolean b = (bits & 2) == 2;
+                    boolean c = (bits & 4) == 4;
+                    String[] abc = {so[bits & 1], so[bits >> 1 & 1], so[bits >> 2 & 1]};
+                    boolean left = one.equals("and") || two.equals("or");
+                    is(abc[0] + " " + one + " " + abc[1] + " " + two + " " + abc[2], left ? joined(two, joined(one, a, b), c) : joined(one, a, joined(two, b, c)));
+                    is("(" + abc[0] + " " + one + " " + abc[1] + ") " + two + " " + abc[2], joined(two, joined(one, a, b), c));
+                    is(abc[0] + " " + one + " (" + abc[1] + " " + two + " " + abc[2] + ")", joined(one, a, joined(two, b, c)));
+                    is("not (" + abc[0] + " " + one + " " + abc[1] + ") " + two + " " + abc[2], joined(two, !joined(one, a, b), c));
+                    is(abc[0] + " " + one + " not (" + abc[1] + " " + two + " not " + abc[2] + ")", joined(one, a, !joined(two, b, !c)));
+                    is("not (not " + abc[0] + " " + one + " not not (" + abc[1] + ")) " + two + " (" + abc[2] + ")", joined(two, !joined(one, !a, b), c));
+                }
+            }
+        }
+    }
+
+    private static void is(String condition, boolean so) {
+        Check.due(condition, told("jet 5 when " + condition + ";jet 3;", 8), so ? 5 : 3);
+    }
+
+    /** As long as a tape can hold them, and told again and again. */
+    private static void longSums() {
+        Check.sentence("Terms 2", "E = T {(+ | -) T}. T = U {* U | / NUMBER}.");
+        Check.due("a sum of 197", told("slip 1" + "+1".repeat(196) + ";", 40), 197);
+        Check.due("a difference", told("slip 999" + "-1".repeat(195) + ";", 40), 804);
+        Check.due("sums and differences", told("slip 5" + "+3-2".repeat(90) + ";", 40), 95);
+        Check.due("a product", told("slip 7" + "*1".repeat(196) + ";", 40), 7);
+        Check.due("parts", told("slip 7" + "/1".repeat(196) + ";", 40), 7);
+        Check.due("9-3-2", told("slip 9-3-2;", 40), 4);
+        Check.due("9-3*2+1", told("slip 9-3*2+1;", 40), 4);
+        Check.due("20/3*2-1*4/3", told("slip 20/3*2-1*4/3;", 40), 11);
+        Check.due("many alternatives", told("jet 5 when 1=2" + " or 1=2".repeat(53) + " or 1=1;", 8), 5);
+        Check.due("many conditions", told("jet 5 when 1=1" + " and 1=1".repeat(46) + ";jet 3;", 8), 5);
+        Run again = place();
+        for (int i = 0; i < 20; i++) {
+            again = again.text(0, "slip " + i + "+1".repeat(196) + ";");
+        }
+        Check.due("told twenty times", again, x -> x.of(0, 40), 215);
+        Run faulted = place();
+        for (int i = 0; i < 20; i++) {
+            faulted = faulted.text(0, "slip 1" + "+1".repeat(196) + "?");
+        }
+        Check.due("faulted twenty times", faulted.text(0, "slip 8;"), x -> x.of(0, 40), 8);
     }
 }

@@ -180,6 +180,13 @@ public final class ThoughtBoundsTest {
         Check.due("two are less than all", seated(place(), 9, 71, 72), x -> x.ways(2), 7);
         Check.due("three are less than two", seated(place(), 8, 9, 71, 72, 73), x -> x.ways(2), 7);
         Check.due("of several the least", seated(place(), 71, 72, 68, 69), x -> x.ways(2), 6);
+        Check.due("sitter 0", seated(place(), 0, 1, 12), x -> x.ways(2), 0);
+        Check.due("spout 0 counts", seated(place(), 0, 11, 12), x -> x.ways(2), 1);
+        Run asked = seated(place(), 79, 60).then(x -> x.ways(0), x -> x.ways(1), x -> x.ways(2));
+        Check.due("asked again, WAYS", asked, x -> x.ways(0), 1);
+        Check.due("asked again, SURE", asked, x -> x.ways(1), 2);
+        Check.due("asked again behind NONE, SURE", seated(asked.then(x -> x.seat(NONE, 0)), 0, 1), x -> x.ways(1), 0);
+        Check.due("asked again behind NONE, ASK", seated(asked.then(x -> x.seat(NONE, 0)), 0, 1), x -> x.ways(2), 0);
     }
 
     private static Run quarrelled(int... couples) {
@@ -229,6 +236,7 @@ public final class ThoughtBoundsTest {
         part("two stars", quarrelled(1, 2, 3, 4, 56, 57, 58, 59), 8, 2);
         part("a row", quarrelled(1, 12, 23, 34, 45, 56, 67, 78, 89), 5, 1);
         part("a row told from its ends", quarrelled(1, 89, 12, 78, 23, 67, 34, 56, 45), 5, 1);
+        part("a star told from its points, behind a couple", quarrelled(89, 10, 20, 30), 4, 2);
         part("an even round", quarrelled(1, 12, 23, 30), 2, 1);
         part("three and four", quarrelled(3, 4, 5, 6, 13, 14, 15, 16, 23, 24, 25, 26), 4, 1);
         part("five and one, one and one", quarrelled(1, 2, 3, 4, 5, 89), 6, 2);
@@ -266,6 +274,12 @@ public final class ThoughtBoundsTest {
         knows("one for two", hearing(1, 2, 3), 3, 1, 4);
         knows("of several the least", hearing(3, 4, 1, 6), 7, 2, 3);
         knows("alike", hearing(5, 5, 5), 5, 1, 1);
+        Run ten = Run.of(10, 0);
+        for (int i = 0; i < 10; i++) {
+            ten = ten.set(3, 0, 1 << i).act(0, 0, i).days(1);
+        }
+        knows("ten, each its own", ten, 1023, 10, 1023);
+        knows("nine of ten", ten, 1022, 9, 1022);
         Run last = Run.of(10, 3).text(0, "hears 9;").act(0, 0, 9).days(1);
         knows("the tenth spout", last, 3, 1, 512);
         Check.sentence("Promise 25", "NONE if by none, there are other bits than WORDS, or another what.");
@@ -527,6 +541,9 @@ public final class ThoughtBoundsTest {
         reads(reign(10, 20, 30, 15), 3, 30, 2);
         reads(reign(5, 5, 5, 5, 5), 3, 10, 1);
         reads(reign(60, 1, 1, 1, 1, 1, 1), 6, 60, 1);
+        reads(reign(10, 1, 1, 1, 1, 1, 1, 1, 1, 1, 1, 10), 3, 10, 1);
+        reads(reign(10, 1, 1, 1, 1, 1, 1, 1, 1, 1, 1, 10), 4, 10, 1);
+        reads(reign(1, 2, 3, 4, 5, 6, 7, 8, 9, 10, 11, 12), 6, 17, 5);
         Check.sentence("Promise 35", "READ what 0 the sum, 1 where the second storm begins (NONE: one storm). NONE if k can't be (more than chapters), or another what.");
         for (int k : Run.beyond(1, 6)) {
             Check.due("k " + k, twelve, x -> x.read(k, 0), NONE);
