@@ -178,6 +178,10 @@ public final class DayBoundsTest {
     }
 
     private static void whoSays() {
+        Check.sentence("Terms 3", "(d) If RAIN is above 0");
+        Check.due("RAIN 0", heard(7).set(0, 0, 0), x -> x.days(1), 0);
+        Check.due("RAIN 1", heard(7).set(0, 0, 1), x -> x.days(1), 3);
+        Check.due("RAIN 9", heard(7).set(0, 0, 9), x -> x.days(1), 3);
         Check.sentence("Terms 3", "SPOUT by SPOUT with MOUTH 0, or 1 while RAIN is 5 at least");
         for (int rain = 1; rain <= 9; rain++) {
             Run r = heard(7).set(0, 0, rain);

@@ -25,6 +25,11 @@ public final class TellingBoundsTest {
             int what = i;
             Check.due("look " + i, bare, x -> x.look(what), 0);
         }
+        Check.sentence("Terms 1", "RAIN 0 .. 9 (0 at first), SAID (an int, 0 at first), WRONG (an int, 0 at first), DAY 0 .. 9999 (0 at first).");
+        for (int i = 2; i <= 5; i++) {
+            int what = i;
+            Check.due("look " + i + " with spouts and sitters", Run.of(10, 1, 2), x -> x.look(what), 0);
+        }
         Check.sentence("The constants", "None.");
         Check.due("NONE", NONE, -1);
         Check.sentence("Terms 1", "CAUGHT (a set of WORDS; none, empty at first)");
@@ -93,6 +98,11 @@ public final class TellingBoundsTest {
         Check.due("spout behind 10", Run.of(10), x -> x.spout(0, 0, 0), NONE);
         Check.due("SPOUTS", Run.of(10), x -> x.look(0), 10);
         Check.due("one that can't be takes no number", new Run(x -> x.spout(6, 0, 0)), x -> x.spout(5, 0, 0), 0);
+        Check.sentence("Terms 1", "SPOUTS 0 .. 9 as they come");
+        for (int n = -1; n <= 10; n++) {
+            int spout = n;
+            Check.due("LEAN of " + n + " among ten", Run.of(10), x -> x.of(spout, 2), n < 0 || n > 9 ? NONE - 1 : n * 10);
+        }
     }
 
     private static void sitters() {
@@ -109,6 +119,11 @@ public final class TellingBoundsTest {
         }
         Check.due("SITTERS", Run.of(0, new int[8]), x -> x.look(1), 8);
         Check.due("one that can't be takes no number", new Run(x -> x.sitter(-1)), x -> x.sitter(0), 0);
+        Check.sentence("Terms 1", "SITTERS 0 .. 7 as they come");
+        for (int n = -1; n <= 8; n++) {
+            int sitter = n;
+            Check.due("KNOWS of " + n + " among eight", Run.of(0, 9, 8, 7, 6, 5, 4, 3, 2), x -> x.who(sitter, 0), n < 0 || n > 7 ? NONE - 1 : 9 - n);
+        }
     }
 
     private static void sets() {
@@ -176,6 +191,11 @@ public final class TellingBoundsTest {
                 Check.due("jar", r, x -> Run.bit(x.act(2, who, v)), 1);
                 Check.due("AT", r.act(2, who, 4).act(2, who, v), x -> x.jar(who, 0), v);
             }
+        }
+        Check.sentence("Terms 1", "JARS 0 .. 5: AT a SPOUT or none");
+        for (int n = -1; n <= 6; n++) {
+            int jar = n;
+            Check.due("AT of jar " + n, r.act(2, n, 9), x -> x.jar(jar, 0), n < 0 || n > 5 ? NONE - 1 : 9);
         }
         Check.sentence("Promise 6", "7 to EMPTY a JAR (v else not asked): true");
         Run caught = r.act(0, 0, 0).act(2, 0, 0).act(2, 5, 0).days(1).set(0, 0, 1).text(0, "slip 0;").days(1);

@@ -388,6 +388,9 @@ public final class ThoughtBoundsTest {
     }
 
     private static void keeps() {
+        Check.sentence("Terms 4", "MASONS, four, each with a row of the four STONES he'd have (0 .. 3, the dearest first), STONES each with a row of masons");
+        kept(new Run(x -> Run.bit(x.mason(3, false, 3210))), 7, 0, 1, 2, 3);
+        kept(new Run(x -> Run.bit(x.mason(0, true, 3210))), 10, 1, 2, 3, 0);
         Check.sentence("Terms 4", "told as numbers of four digits (0 1 2 3 at first).");
         kept(new Run(), 10, 0, 1, 2, 3);
         Check.sentence("Terms 4", "KEEPS: offers go out, the mason's dearest that has not refused him yet, mason by mason (the least that has none first);"
