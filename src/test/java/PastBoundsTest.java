@@ -164,14 +164,14 @@ public final class PastBoundsTest {
             .act(0, 0, 2).act(1, 1, 0).act(2, 0, 2).act(2, 5, 2).act(4, 0, 0).act(5, 2, 0).act(7, 0, 0)
             .text(0, "jet 9;hears 9;slip 1000;").text(1, "spout 2 into 0;").text(2, "day 4 rain 9;").text(3, "on 5 tell 0 9;").days(9)
             .then(x -> x.seat(NONE, 0), x -> x.seat(1, 2), x -> x.quarrel(NONE, 0), x -> x.quarrel(8, 9), x -> Run.bit(x.latin(7, 7)), x -> Run.bit(x.latin(1, 9)),
-                x -> Run.bit(x.mason(1, false, 2130)), x -> Run.bit(x.mason(2, true, 1203)), x -> x.drought(NONE), x -> x.drought(0), x -> x.chapter(NONE), x -> x.chapter(60));
+                x -> Run.bit(x.mason(0, false, 3210)), x -> Run.bit(x.mason(2, true, 1203)), x -> x.drought(NONE), x -> x.drought(0), x -> x.chapter(NONE), x -> x.chapter(60));
     }
 
     /** The base with something told for every thought. */
     private static Run rich() {
         return base().text(0, "hears 3;slip 700 when word=2;").text(3, "on 9 rise 0;")
             .then(x -> x.seat(0, 0), x -> x.seat(1, 0), x -> x.seat(1, 1), x -> x.quarrel(0, 1), x -> x.quarrel(1, 2), x -> x.quarrel(0, 3), x -> Run.bit(x.latin(7, 8)), x -> Run.bit(x.latin(8, 7)),
-                x -> Run.bit(x.mason(1, false, 3210)), x -> Run.bit(x.mason(2, true, 3120)), x -> x.drought(3), x -> x.drought(0), x -> x.drought(0), x -> x.chapter(9), x -> x.chapter(8));
+                x -> Run.bit(x.mason(2, false, 2013)), x -> Run.bit(x.mason(3, false, 2103)), x -> Run.bit(x.mason(2, true, 3120)), x -> x.drought(3), x -> x.drought(0), x -> x.drought(0), x -> x.chapter(9), x -> x.chapter(8));
     }
 
     private static void imageTakesAll() {
