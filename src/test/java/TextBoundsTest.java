@@ -590,6 +590,7 @@ public final class TextBoundsTest {
         for (int i = 0; i < 20; i++) {
             again = again.text(0, "slip " + i + "+1".repeat(196) + ";");
         }
+        Check.due("a shorter law behind a longer one", place().text(0, "slip 8/2;").text(0, "slip 8;"), x -> x.of(0, 40), 8);
         Check.due("told twenty times", again, x -> x.of(0, 40), 215);
         Run faulted = place();
         for (int i = 0; i < 20; i++) {

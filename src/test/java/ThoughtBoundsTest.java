@@ -237,6 +237,7 @@ public final class ThoughtBoundsTest {
         part("a row", quarrelled(1, 12, 23, 34, 45, 56, 67, 78, 89), 5, 1);
         part("a row told from its ends", quarrelled(1, 89, 12, 78, 23, 67, 34, 56, 45), 5, 1);
         part("a star told from its points, behind a couple", quarrelled(89, 10, 20, 30), 4, 2);
+        part("a row told with its middle last", quarrelled(4, 23, 34), 2, 1);
         part("an even round", quarrelled(1, 12, 23, 30), 2, 1);
         part("three and four", quarrelled(3, 4, 5, 6, 13, 14, 15, 16, 23, 24, 25, 26), 4, 1);
         part("five and one, one and one", quarrelled(1, 2, 3, 4, 5, 89), 6, 2);
