@@ -2,10 +2,12 @@ import java.util.ArrayList;
 import java.util.List;
 import java.util.Random;
 
-/** Random runs of calls on the program and on PlainNews; each answer must be the same. */
+/** Random runs of up to 512 calls on the program and on PlainNews; each answer must be the same. */
 public final class FuzzTest {
-    private static final int RUNS = 1500;
-    private static final int CALLS = 400;
+    private static final int RUNS = 8000;
+    private static final int MOST_CALLS = 512;
+    // The longest text is fed five times over, twenty bytes a call, and asked for its fault.
+    private static final int MOST_AT_ONCE = 110;
     private static int wrong = 0;
     private static long calls = 0;
 
@@ -31,15 +33,15 @@ public final class FuzzTest {
         y = new PlainNews();
         log = new ArrayList<>();
         boolean apart = false;
-        int big = random.nextInt(4);
-        for (int i = 0; i < 3 + 3 * big && !apart; i++) {
-            apart = !call(0, 2);
-        }
-        for (int i = 0; i < CALLS && !apart; i++) {
-            apart = !call(0, 41) || i % 40 == 39 && !sameSights();
-        }
-        if (!apart) {
-            apart = !sameSights();
+        int first = 3 * r(0, 6);
+        while (log.size() < MOST_CALLS && !apart) {
+            if (log.size() < first) {
+                apart = !call(0, 2);
+            } else if (log.size() + MOST_AT_ONCE > MOST_CALLS || r(0, 3) == 0) {
+                apart = !sight();
+            } else {
+                apart = !call(0, 41);
+            }
         }
         if (apart) {
             wrong++;
@@ -82,7 +84,7 @@ public final class FuzzTest {
         switch (r(from, to)) {
             case 0: a = near(0, 5); b = near(0, 3); c = near(0, 99); return same("spout " + a + " " + b + " " + c, x.spout(a, b, c), y.spout(a, b, c));
             case 1: a = near(0, 65535); return same("sitter " + a, x.sitter(a), y.sitter(a));
-            case 2: a = near(0, 7); b = near(0, Math.max(0, x.look(1) - 1)); c = near(0, Math.max(0, x.look(0) - 1));
+            case 2: a = near(0, 7); b = near(0, Math.max(0, y.look(1) - 1)); c = near(0, Math.max(0, y.look(0) - 1));
                 return same("act " + a + " " + b + " " + c, x.act(a, b, c), y.act(a, b, c));
             case 3: a = random.nextInt(); if (r(0, 3) > 0) return true; return same("state " + a, x.state(a), y.state(a));
             case 4: a = near(0, 3); b = near(0, 9); c = a == 3 ? near(0, 65535) : a == 0 ? near(0, 9) : near(0, 99);
@@ -98,7 +100,7 @@ public final class FuzzTest {
             case 17: a = near(0, 15); b = near(0, 9); return same("told " + a + " " + b, x.told(a, b), y.told(a, b));
             case 18: a = near(0, 9); b = near(0, 1); return same("ends " + a + " " + b, x.ends(a, b), y.ends(a, b));
             case 19: a = near(0, 1); return same("catches " + a, x.catches(a), y.catches(a));
-            case 20: case 21: a = r(0, 20) == 0 ? -1 : near(0, Math.max(0, x.look(1) - 1)); b = near(0, Math.max(0, x.look(0) - 1));
+            case 20: case 21: a = r(0, 20) == 0 ? -1 : near(0, Math.max(0, y.look(1) - 1)); b = near(0, Math.max(0, y.look(0) - 1));
                 return same("seat " + a + " " + b, x.seat(a, b), y.seat(a, b));
             case 22: a = near(0, 2); return same("ways " + a, x.ways(a), y.ways(a));
             case 23: case 24: a = r(0, 20) == 0 ? -1 : near(0, 9); b = near(0, 9); return same("quarrel " + a + " " + b, x.quarrel(a, b), y.quarrel(a, b));
@@ -153,7 +155,7 @@ public final class FuzzTest {
 
     private boolean tellText() {
         int k = r(0, 60) == 0 ? r(-2, 6) : r(0, 3);
-        String s = new TextMaker(random, x.look(0), x.look(1), x.look(5)).make(k);
+        String s = new TextMaker(random, y.look(0), y.look(1), y.look(5)).make(k);
         if (r(0, 40) == 0) {
             s = s + s + s + s + s;
         }
@@ -169,33 +171,28 @@ public final class FuzzTest {
         return all && same("fault 0", x.fault(0), y.fault(0)) && same("fault 1", x.fault(1), y.fault(1)) && same("fault 2", x.fault(2), y.fault(2));
     }
 
-    /** All that can be seen without changing anything. */
-    private boolean sameSights() {
-        boolean all = true;
-        for (int i = -1; i < 14; i++) {
-            all &= same("look " + i, x.look(i), y.look(i));
+    /** Something that can be seen without changing anything. */
+    private boolean sight() {
+        int a;
+        int b;
+        switch (r(0, 14)) {
+            case 0: a = r(0, 12); return same("look " + a, x.look(a), y.look(a));
+            case 1: a = ofSpouts(); b = r(0, 8); return same("of " + a + " " + b, x.of(a, b), y.of(a, b));
+            case 2: a = ofSpouts(); b = 20 + r(0, 16); return same("of " + a + " " + b, x.of(a, b), y.of(a, b));
+            case 3: a = ofSpouts(); b = 40 + r(0, 15); return same("of " + a + " " + b, x.of(a, b), y.of(a, b));
+            case 4: a = r(0, Math.max(0, y.look(1) - 1)); b = r(0, 1); return same("who " + a + " " + b, x.who(a, b), y.who(a, b));
+            case 5: a = r(0, 5); b = r(0, 1); return same("jar " + a + " " + b, x.jar(a, b), y.jar(a, b));
+            case 6: case 7: case 8: a = r(0, Math.min(149, y.look(6))); b = r(0, 3); return same("book " + a + " " + b, x.book(a, b), y.book(a, b));
+            case 9: a = r(1, 8); b = r(0, 2) + (r(0, 1) == 0 ? 10 : 0); return same("goes " + a + " " + b, x.goes(a, b), y.goes(a, b));
+            case 10: a = r(0, 15); b = ofSpouts(); return same("told " + a + " " + b, x.told(a, b), y.told(a, b));
+            case 11: a = ofSpouts(); b = r(0, 1); return same("ends " + a + " " + b, x.ends(a, b), y.ends(a, b));
+            case 12: a = r(0, 2); return same("ways " + a, x.ways(a), y.ways(a));
+            case 13: a = r(1, 6); b = r(0, 1); return same("read " + a + " " + b, x.read(a, b), y.read(a, b));
+            default: a = r(0, 1); return same("game " + a, x.game(a), y.game(a));
         }
-        for (int i = -1; i < 11 && all; i++) {
-            for (int what = -1; what < 57 && all; what++) {
-                all = same("of " + i + " " + what, x.of(i, what), y.of(i, what));
-            }
-            for (int what = -1; what < 3 && all; what++) {
-                all = same("who " + i + " " + what, x.who(i, what), y.who(i, what))
-                    && same("jar " + i + " " + what, x.jar(i, what), y.jar(i, what))
-                    && same("ends " + i + " " + what, x.ends(i, what), y.ends(i, what))
-                    && same("read " + i + " " + what, x.read(i, what), y.read(i, what));
-            }
-        }
-        for (int i = -1; i < 151 && all; i++) {
-            for (int what = -1; what < 5 && all; what++) {
-                all = same("book " + i + " " + what, x.book(i, what), y.book(i, what));
-            }
-        }
-        for (int what = -1; what < 4 && all; what++) {
-            all = same("ways " + what, x.ways(what), y.ways(what)) && same("parts " + what, x.parts(what), y.parts(what))
-                && same("game " + what, x.game(what), y.game(what)) && same("longest " + what, x.longest(what), y.longest(what))
-                && same("catches " + what, x.catches(what), y.catches(what)) && same("keeps " + what, x.keeps(what), y.keeps(what));
-        }
-        return all;
+    }
+
+    private int ofSpouts() {
+        return r(0, Math.max(0, y.look(0) - 1));
     }
 }

@@ -1,29 +1,27 @@
 import java.lang.management.ManagementFactory;
+import java.lang.reflect.Array;
 import java.lang.reflect.Constructor;
 import java.lang.reflect.Field;
 import java.lang.reflect.Method;
 import java.lang.reflect.Modifier;
-import java.nio.file.Files;
 import java.nio.file.Path;
 import java.util.Arrays;
-import java.util.List;
+import java.util.Collections;
+import java.util.IdentityHashMap;
+import java.util.Set;
 import java.util.TreeSet;
 import java.util.regex.Matcher;
 import java.util.regex.Pattern;
+import java.util.stream.Collectors;
 
-/** What of LANGUAGE.md can be seen from outside: the face, words that may not stand, sizes, and the room. */
+/** What of LANGUAGE.md can be seen from outside: the face, and the room that objects and calls take. */
 public final class LanguageTest {
-    private static final String FACE = "act again book catches chapter days drought end ends fault feed game goes image jar keeps known latin"
-        + " leans longest look mason of parts quarrel read seat set sitter spout state surmise text told undo ways weather who";
     private static int wrong = 0;
 
-    public static void main(String[] args) throws Exception {
-        Path source = Path.of(args.length > 0 ? args[0] : "src/main/java/SpoutNews.java");
-        String code = withoutCommentsAndTexts(Files.readString(source));
+    public static void main(String[] args) throws IllegalAccessException {
         theFace();
-        theWords(code);
-        theSizes(code);
-        theRoom();
+        theRoomOfAnObject();
+        theRoomOfCalls();
         System.out.println("LanguageTest: " + (wrong == 0 ? "all is as told" : wrong + " faults"));
         if (wrong != 0) {
             System.exit(1);
@@ -37,84 +35,88 @@ public final class LanguageTest {
         }
     }
 
-    private static String withoutCommentsAndTexts(String s) {
-        String quiet = s.replaceAll("\"(\\\\.|[^\"\\\\])*\"", "\"\"").replaceAll("'(\\\\.|[^'\\\\])'", "' '");
-        return quiet.replaceAll("(?s)/\\*.*?\\*/", "").replaceAll("//[^\n]*", "");
-    }
-
     private static void theFace() {
         Class<?> c = SpoutNews.class;
         claim("public and final", Modifier.isPublic(c.getModifiers()) && Modifier.isFinal(c.getModifiers()));
-        TreeSet<String> open = new TreeSet<>();
-        TreeSet<String> hidden = new TreeSet<>();
+        Set<String> seen = new TreeSet<>();
+        Set<String> names = new TreeSet<>();
         for (Method m : c.getDeclaredMethods()) {
-            (Modifier.isPrivate(m.getModifiers()) ? hidden : open).add(m.getName());
+            if (!Modifier.isPrivate(m.getModifiers())) {
+                seen.add(Modifier.toString(m.getModifiers()) + " " + m.getReturnType() + " " + m.getName() + types(m.getParameterTypes()));
+                names.add(m.getName());
+            }
         }
-        claim("methods are the document's: " + open, open.equals(new TreeSet<>(List.of(FACE.split(" ")))));
+        for (Constructor<?> k : c.getDeclaredConstructors()) {
+            seen.add(Modifier.toString(k.getModifiers()) + " " + k.getName() + types(k.getParameterTypes()));
+        }
+        for (Field f : c.getDeclaredFields()) {
+            if (!Modifier.isPrivate(f.getModifiers())) {
+                seen.add(Modifier.toString(f.getModifiers()) + " " + f.getType() + " " + f.getName());
+            }
+        }
+        Set<String> due = faceOfTheDocument();
+        claim("the document has a face", due.size() == 40);
+        claim("the face is " + seen + ", due is " + due, seen.equals(due));
+        claim("NONE", SpoutNews.NONE == -1);
         for (Class<?> inner : c.getDeclaredClasses()) {
             claim(inner + " is static", Modifier.isStatic(inner.getModifiers()));
             for (Method m : inner.getDeclaredMethods()) {
-                hidden.add(m.getName());
+                claim(inner + " has a method with a public name: " + m.getName(), !names.contains(m.getName()));
             }
-            claim(inner + " has few fields", notConstant(inner) <= 20);
         }
-        claim("few classes", c.getDeclaredClasses().length <= 11);
-        hidden.retainAll(open);
-        claim("private methods with public names: " + hidden, hidden.isEmpty());
-        for (Field f : c.getDeclaredFields()) {
-            claim("field " + f.getName(), f.getName().equals("NONE") || Modifier.isPrivate(f.getModifiers()));
-            claim("static field " + f.getName(), !Modifier.isStatic(f.getModifiers()) || Modifier.isFinal(f.getModifiers()));
-        }
-        for (Constructor<?> k : c.getDeclaredConstructors()) {
-            claim("one constructor without arguments", k.getParameterCount() == 0);
-        }
-        claim("NONE", SpoutNews.NONE == -1);
     }
 
-    private static long notConstant(Class<?> c) {
-        return Arrays.stream(c.getDeclaredFields()).filter(f -> !Modifier.isStatic(f.getModifiers())).count();
+    private static String types(Class<?>[] all) {
+        return Arrays.stream(all).map(Class::getName).collect(Collectors.joining(", ", "(", ")"));
     }
 
-    private static void theWords(String code) {
-        String[] never = {"throw", "throws", "try", "catch", "synchronized", "assert", "instanceof", "package", "protected", "Object",
-            "HashMap", "Random", "System.out", "System.nano", "Thread", "hashCode", "toString", "values", "var", "volatile", "native"};
-        for (String word : never) {
-            claim("the word " + word, !Pattern.compile("\\b" + Pattern.quote(word) + "\\b").matcher(code).find());
-        }
-        claim("no lambda", !code.contains("->"));
-        claim("no method reference", !code.contains("::"));
-        claim("no while that has no counter", !Pattern.compile("\\b(while|do)\\b").matcher(code).find());
-        claim("one import", code.split("\\bimport\\b").length == 2 && code.contains("import java.util.Arrays;"));
-        Matcher m = Pattern.compile("\\b(Math|Integer|Long|Arrays|System)\\.(\\w+)").matcher(code);
-        List<String> told = List.of("Math.min", "Math.max", "Integer.bitCount", "Arrays.fill", "System.arraycopy");
+    /** The lines of "The public face", without the names of what is handed over and without what a constant is. */
+    private static Set<String> faceOfTheDocument() {
+        String document = Check.read(Path.of("../shared/DOC.md"));
+        Set<String> all = new TreeSet<>();
+        Matcher m = Pattern.compile("(?m)^    (public [^;]*);$").matcher(document);
         while (m.find()) {
-            claim("the library's " + m.group(), told.contains(m.group()));
+            all.add(m.group(1).replaceAll(" = .*", "").replaceAll("(int|boolean) \\w+(?=[,)])", "$1"));
         }
-        for (char c : code.toCharArray()) {
-            claim("a sign beyond 127", c < 128);
-        }
+        return all;
     }
 
-    /** Methods of at most sixty lines, with at most seven parameters. */
-    private static void theSizes(String code) {
-        Pattern head = Pattern.compile("^( +)(?!return|else|case|new)[\\w\\[\\] ]*\\b(\\w+)\\(([^()]*)\\) \\{$");
-        String[] lines = code.split("\n", -1);
-        for (int i = 0; i < lines.length; i++) {
-            Matcher m = head.matcher(lines[i]);
-            if (!m.matches() || m.group(2).equals("if") || m.group(2).equals("for") || m.group(2).equals("switch")) {
+    /** Room for some 600,000 objects and 7.3 million fields and elements: several hundred of these must fit. */
+    private static void theRoomOfAnObject() throws IllegalAccessException {
+        Set<Object> met = Collections.newSetFromMap(new IdentityHashMap<>());
+        long held = heldBy(new SpoutNews(), met);
+        claim("an object is made of " + met.size() + " objects and arrays", met.size() <= 300);
+        claim("an object holds " + held + " fields and elements", held <= 12_000);
+    }
+
+    /** How many fields and elements an object and all it leads to have; what was met before counts no more. */
+    private static long heldBy(Object o, Set<Object> met) throws IllegalAccessException {
+        if (o == null || !met.add(o)) {
+            return 0;
+        }
+        if (o.getClass().isArray()) {
+            long held = Array.getLength(o);
+            for (int i = 0; i < Array.getLength(o) && !o.getClass().getComponentType().isPrimitive(); i++) {
+                held += heldBy(Array.get(o, i), met);
+            }
+            return held;
+        }
+        long held = 0;
+        for (Field f : o.getClass().getDeclaredFields()) {
+            if (Modifier.isStatic(f.getModifiers())) {
                 continue;
             }
-            int end = i;
-            while (!lines[end].equals(m.group(1) + "}")) {
-                end++;
+            held++;
+            if (!f.getType().isPrimitive()) {
+                f.setAccessible(true);
+                held += heldBy(f.get(o), met);
             }
-            claim(m.group(2) + " is long", end - i < 60);
-            claim(m.group(2) + " takes many", m.group(3).split(",").length <= 7);
         }
+        return held;
     }
 
     /** What one object and 512 of its dearest calls make stays far below the room of a run. */
-    private static void theRoom() {
+    private static void theRoomOfCalls() {
         com.sun.management.ThreadMXBean threads = (com.sun.management.ThreadMXBean) ManagementFactory.getThreadMXBean();
         long id = Thread.currentThread().getId();
         busyRun();
