@@ -422,15 +422,18 @@ public final class DayBoundsTest {
         Check.due("the day goes on", Run.of(1, 0xffff).act(0, 0, 0).text(0, "hears day;"), x -> x.goes(4, 2), 6);
     }
 
-    /** Each fact that the law can ask for is in thought what it would be in truth. */
+    /** Each fact that the law can ask for is in thought what it would be in truth, of the first spout and of the tenth. */
     private static void goesByTheLaw() {
-        Run r = new Run(x -> x.spout(2, 3, 4), x -> x.sitter(0xffff)).act(0, 0, 0).act(3, 0, 0).text(0, "hears 6;").days(2).set(2, 0, 5).set(0, 0, 7);
         String[] facts = {"stone", "side", "lean", "mouth", "rain", "heard-4", "dry", "3+word", "day"};
         int[] due = {2, 3, 4, 1, 7, 8, 5, 3, 2};
-        for (int i = 0; i < facts.length; i++) {
-            Run told = r.text(0, "jet " + facts[i] + ";");
-            Check.due("jet " + facts[i] + " in thought", told, x -> x.goes(1, 0), due[i]);
-            Check.due("jet " + facts[i] + " in truth", told, x -> x.days(1), due[i]);
+        for (int at : new int[] {0, 9}) {
+            Run r = new Run().times(at, x -> x.spout(0, 0, 0)).then(x -> x.spout(2, 3, 4), x -> x.sitter(0xffff)).act(0, 0, at).act(3, at, 0)
+                .text(0, "hears 6;").days(2).set(2, at, 5).set(0, 0, 7);
+            for (int i = 0; i < facts.length; i++) {
+                Run told = r.text(0, "jet " + facts[i] + ";");
+                Check.due("jet " + facts[i] + " in thought", told, x -> x.goes(1, 0), due[i]);
+                Check.due("jet " + facts[i] + " in truth", told, x -> x.days(1), due[i]);
+            }
         }
     }
 

@@ -13,6 +13,10 @@ public final class PastBoundsTest {
         undoneNotTheTold();
         theImage();
         imageTakesAll();
+        imageTakesTheLastOfEach();
+        imageTakesTheLastLine();
+        imageTakesEachRow();
+        undoOfTheLastOfEach();
         imageAgain();
         imageAndUndo();
         Check.end("PastBoundsTest");
@@ -186,6 +190,160 @@ public final class PastBoundsTest {
         Check.due("the tape is not of it", rich().tape("jet").image(true).tape("").tape("hears").image(false).tapeLength(), 5);
         Check.due("fault() is not of it", rich().text(0, "?").image(true).text(0, "  ?").image(false), x -> x.fault(1), 2);
         Check.due("fault() is not of it", rich().text(0, "?").image(true).text(0, "").image(false), x -> x.fault(0), 0);
+    }
+
+    /** Ten spouts, eight sitters below the last of them, six jars, and THE BOOK full. */
+    private static Run full() {
+        Run r = Run.of(10, 65535, 65535, 65535, 65535, 65535, 65535, 65535, 65535).text(0, "hears 9;");
+        for (int i = 0; i < 8; i++) {
+            r = r.act(0, i, i + 2);
+        }
+        for (int j = 0; j < 6; j++) {
+            r = r.act(2, j, j + 4);
+        }
+        return r.days(2).act(0, 0, 0).days(2).act(0, 0, 1).days(1).then(x -> x.state(7));
+    }
+
+    /** Of all that is told for thought as much as can be; what comes last makes a difference. */
+    private static Run fullOfThought(Run r) {
+        Run all = r.then(x -> x.seat(NONE, 0), x -> x.quarrel(NONE, 0), x -> x.drought(NONE), x -> x.chapter(NONE));
+        for (int couple : new int[] {0, 1, 10, 11, 22, 23, 32, 33, 44, 55, 66, 79}) {
+            all = all.then(x -> x.seat(couple / 10, couple % 10));
+        }
+        all = all.then(x -> x.quarrel(2, 3)).times(12, x -> x.quarrel(4, 5)).then(x -> x.quarrel(8, 9));
+        for (int w = 0; w < 16; w++) {
+            int word = w;
+            all = all.then(x -> Run.bit(x.latin(word, (word + 1) % 16)));
+        }
+        all = all.times(39, x -> x.drought(9)).then(x -> x.drought(0));
+        return all.times(11, x -> x.chapter(1)).then(x -> x.chapter(60));
+    }
+
+    /** As much as can be of something else. */
+    private static Run otherThought(Run r) {
+        Run all = r.then(x -> x.seat(NONE, 0), x -> x.quarrel(NONE, 0), x -> x.drought(NONE), x -> x.chapter(NONE)).times(12, x -> x.seat(0, 0))
+            .times(14, x -> x.quarrel(2, 4)).times(40, x -> x.drought(5)).times(12, x -> x.chapter(2));
+        for (int w = 0; w < 16; w++) {
+            int word = w;
+            all = all.then(x -> Run.bit(x.latin(word, word)));
+        }
+        return all;
+    }
+
+    private static void imageTakesTheLastOfEach() {
+        Check.sentence("Terms 4", "THE IMAGE: all that is and was told");
+        Run thought = otherThought(fullOfThought(Run.of(10, 0, 0, 0, 0, 0, 0, 0, 0)).image(true)).image(false);
+        Check.due("WAYS of twelve", thought, x -> x.ways(0), 4);
+        Check.due("SURE of twelve", thought, x -> x.ways(1), 4);
+        Check.due("no thirteenth", thought, x -> x.seat(0, 0), NONE);
+        Check.due("GROUPS of fourteen", thought, x -> x.parts(1), 3);
+        Check.due("PARTS of fourteen", thought, x -> x.parts(0), 3);
+        Check.due("no fifteenth", thought, x -> x.quarrel(0, 1), NONE);
+        for (int w = NONE; w < 16; w++) {
+            int word = w;
+            Check.due("AGAIN " + w, thought, x -> x.again(word), 16);
+        }
+        Check.due("the longest of forty", thought, x -> x.longest(0), 1);
+        Check.due("where it begins", thought, x -> x.longest(1), 39);
+        Check.due("the greatest of twelve", thought, x -> x.read(2, 0), 60);
+        Check.due("where the second storm begins", thought, x -> x.read(6, 1), 1);
+        Check.due("all in one storm", thought, x -> x.read(1, 0), 71);
+        Run texts = full().text(0, "jet 0" + "+0".repeat(195) + "+7;").text(1, "spout9into0;".repeat(15) + "spout9into8;")
+            .text(2, "day 9 rain 1;".repeat(15) + "day999 rain 9;").text(3, "on 9 rise 0;".repeat(15) + "on 5 tell 7 15;").set(3, 7, 0);
+        Run other = texts.image(true).text(0, "jet 1" + "+1".repeat(195) + ";").text(1, "spout9into1;".repeat(16)).text(2, "day 1 rain 2;".repeat(16))
+            .text(3, "on 6 lead 1;".repeat(16)).then(x -> x.days(1)).image(false);
+        Check.due("the last step of THE LAW", other, x -> x.of(9, 8), 7);
+        Check.due("the last gutter", other, x -> x.of(9, 6), 8);
+        Check.due("the last line of WEATHER", other, x -> x.weather(999), 9);
+        Check.due("the last line of A PLAN", other.days(1), x -> x.who(7, 0), 0x8000);
+        Check.due("first sight that is another one", Arrays.mismatch(texts.image(true).allSeen(), other.allSeen()), -1);
+        Run lines = Run.of(10).text(0, "hears 1;".repeat(15) + "jet 7 when lean=90;");
+        Run otherLines = lines.image(true).text(0, "slip 1+2;".repeat(16)).image(false);
+        Check.due("the 16th line of THE LAW", otherLines, x -> x.of(9, 8), 7);
+        Check.due("what it says it is for", otherLines, x -> x.of(8, 8), 0);
+        Run worlds = full().image(true).set(0, 0, 9).set(1, 9, 1).set(2, 9, 9).set(3, 7, 9).act(0, 7, 0).act(2, 5, 0).act(4, 8, 0).days(3).image(false);
+        Check.due("THE BOOK is full", worlds, x -> x.look(6), 150);
+        Check.due("first sight that is another one", Arrays.mismatch(full().image(true).allSeen(), worlds.allSeen()), -1);
+    }
+
+    /** 149 lines, and the 150th by what is told then and a day. */
+    private static Run lastLine(Run.Call... told) {
+        Run r = Run.of(10, 65535, 65535, 65535, 65535, 65535, 65535, 65535, 65535).text(0, "hears 9;slip 0;");
+        for (int i = 0; i < 8; i++) {
+            r = r.act(0, i, i + 2);
+        }
+        return r.days(2).act(0, 0, 0).days(2).act(0, 0, 1).set(3, 0, 31).days(1).then(told).days(1);
+    }
+
+    private static void imageTakesTheLastLine() {
+        Check.sentence("Terms 3", "THE BOOK (150 lines; no more then)");
+        Run.Call knowsFive = x -> Run.bit(x.act(6, 0, 5));
+        Run.Call rains = x -> Run.bit(x.set(0, 0, 9));
+        Run.Call[][] otherwise = {{x -> Run.bit(x.act(6, 0, 9))}, {rains}, {x -> x.days(1), knowsFive}};
+        int[][] due = {{5, 0, 1, 9}, {5, 1, 0, 0}, {6, 0, 1, 5}};
+        for (int i = 0; i < otherwise.length; i++) {
+            Run taken = lastLine(knowsFive).image(true);
+            Run other = taken.undo().undo().then(otherwise[i]).days(1);
+            for (int k = 0; k < 4; k++) {
+                int what = k;
+                Check.due("line 149, " + k, taken, x -> x.book(149, what), new int[] {5, 0, 1, 5}[k]);
+                Check.due("line 149 another way, " + k, other, x -> x.book(149, what), due[i][k]);
+                Check.due("line 149 gone back, " + k, other.image(false), x -> x.book(149, what), new int[] {5, 0, 1, 5}[k]);
+            }
+            Check.due("lines", other.image(false), x -> x.look(6), 150);
+        }
+    }
+
+    private static long[] allKept(Run r) {
+        long[] all = new long[5];
+        for (int i = NONE; i < 4; i++) {
+            int mason = i;
+            all[i + 1] = r.ask(x -> x.keeps(mason));
+        }
+        return all;
+    }
+
+    private static void imageTakesEachRow() {
+        Check.sentence("Terms 4", "MASONS, four, each with a row of the four STONES he'd have");
+        int[] wanted = {123, 1023, 2013, 3012};
+        for (int n = 0; n < 4; n++) {
+            int i = n;
+            Run ofMason = new Run().then(x -> Run.bit(x.mason(i, false, 3210))).image(true);
+            Run another = ofMason.then(x -> Run.bit(x.mason(i, false, 123)));
+            Check.due("mason " + i + "'s row makes a difference", Arrays.equals(allKept(ofMason), allKept(another)), false);
+            Check.due("mason " + i + "'s row comes back", Arrays.mismatch(allKept(ofMason), allKept(another.image(false))), -1);
+            Run ofStone = new Run();
+            for (int m = 0; m < 4; m++) {
+                int mason = m;
+                ofStone = ofStone.then(x -> Run.bit(x.mason(mason, false, wanted[i])));
+            }
+            ofStone = ofStone.then(x -> Run.bit(x.mason(i, true, 3210))).image(true);
+            another = ofStone.then(x -> Run.bit(x.mason(i, true, 123)));
+            Check.due("stone " + i + "'s row makes a difference", Arrays.equals(allKept(ofStone), allKept(another)), false);
+            Check.due("stone " + i + "'s row comes back", Arrays.mismatch(allKept(ofStone), allKept(another.image(false))), -1);
+        }
+        // Mason 3 is refused by all stones but the last of his row.
+        Run lastOffer = new Run(x -> Run.bit(x.mason(0, false, 1023)), x -> Run.bit(x.mason(1, false, 2013)), x -> Run.bit(x.mason(2, false, 3012)),
+            x -> Run.bit(x.mason(3, false, 1230))).image(true).then(x -> Run.bit(x.mason(3, false, 123))).image(false);
+        Check.due("the last of a row", lastOffer, x -> x.keeps(3), 0);
+        Check.due("offers", lastOffer, x -> x.keeps(NONE), 7);
+    }
+
+    private static void undoOfTheLastOfEach() {
+        Check.sentence("Terms 4", "UNDO: the latest DAY, SEATING, RISING, JAR, MENDING, LEADING, OPENING, TELLING, EMPTYING not undone yet goes back");
+        Run r = full().set(0, 0, 9);
+        undone("a wet day of ten spouts", r, x -> x.days(1));
+        undone("another", r.days(1), x -> x.days(1));
+        undone("a leading of spout 9", r, x -> Run.bit(x.act(4, 9, 0)));
+        undone("a seating of sitter 7", r, x -> Run.bit(x.act(0, 7, 0)));
+        undone("a telling of sitter 7", r.set(3, 7, 0), x -> Run.bit(x.act(6, 7, 15)));
+        undone("jar 5 at another spout", r, x -> Run.bit(x.act(2, 5, 0)));
+        Run weather = full().text(2, "day 5 rain 9;day 6 rain 0;").image(true);
+        Check.due("the 16th word of spout 9", weather, x -> x.of(9, 35), 15);
+        Check.due("two days later", weather.days(2), x -> x.of(9, 35), 8);
+        Check.due("undone", weather.days(2).undo().undo(), x -> x.of(9, 35), 15);
+        Check.due("in the image", weather.days(2).image(false), x -> x.of(9, 35), 15);
+        undone("an emptying of jar 5", r.days(1).then(x -> x.state(0)), x -> Run.bit(x.act(7, 5, 0)));
     }
 
     private static void imageAgain() {
